@@ -27,6 +27,8 @@ public final class SeaWatches {
     private static final int GREATEST_FORETOLD = 2000000000;
     private static final int GREATEST_DOUBT = 9999;
     private static final int GREATEST_VOYAGE = 400;
+    /** Beyond all times and all worsts. */
+    private static final int FAR_OFF = 2000000000;
 
     private static final int NOTHING = -5, WATCH = 0, BOX = 1, GLASS = 2;
     private static final int OFFICE = -1, FIRST_SHIP = 100;
@@ -1429,7 +1431,7 @@ public final class SeaWatches {
         }
 
         int beginOf(int sight, int dropped) {
-            int greatest = Integer.MIN_VALUE;
+            int greatest = -FAR_OFF;
             for (int i = 0; i < CARRIED; i++) {
                 if (i != dropped) {
                     greatest = Math.max(greatest, timeOf(sight, i) - widthOf(sight, i));
@@ -1439,7 +1441,7 @@ public final class SeaWatches {
         }
 
         int endOf(int sight, int dropped) {
-            int least = Integer.MAX_VALUE;
+            int least = FAR_OFF;
             for (int i = 0; i < CARRIED; i++) {
                 if (i != dropped) {
                     least = Math.min(least, timeOf(sight, i) + widthOf(sight, i));
@@ -1473,7 +1475,7 @@ public final class SeaWatches {
             voyages[0] = a;
             voyages[1] = b;
             voyages[2] = c;
-            leastWorst = Integer.MAX_VALUE;
+            leastWorst = FAR_OFF;
             for (int ship = 0; ship < given.length; ship++) {
                 given[ship] = 0;
             }

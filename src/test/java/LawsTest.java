@@ -1,5 +1,6 @@
 import java.math.BigInteger;
 import java.util.ArrayList;
+import java.util.Arrays;
 import java.util.List;
 import java.util.Random;
 
@@ -13,6 +14,8 @@ public final class LawsTest {
         terms();
         foretold();
         foretoldByBigNumbers();
+        foretoldNearlyInLine();
+        foretoldAtTheBound();
         jump();
         due.end();
     }
@@ -177,6 +180,83 @@ public final class LawsTest {
             }
             compareLaw(x, p, p + length, warmths, random);
         }
+    }
+
+    /**
+     * Few days, of which warmth and age are nearly in line, and a repair by which ages are far apart: then the
+     * numbers of a law are great, also beyond 2000000000.
+     */
+    private static void foretoldNearlyInLine() {
+        Random random = new Random(5);
+        int beyond = 0;
+        for (int run = 0; run < 4000; run++) {
+            SeaWatches x = sixtyRates(random);
+            int first = 339 + random.nextInt(20);
+            int second = 359 + random.nextInt(20);
+            int third = 380 + random.nextInt(19);
+            long[] warmths = new long[400];
+            Arrays.fill(warmths, -100);
+            warmths[first] = random.nextInt(2) - 50;
+            warmths[third] = 50 - random.nextInt(40);
+            // the age of the first day is the greatest one: what is left out of line is a rest of a division
+            long ages = x.age(0, third) - x.age(0, first);
+            long inLine = warmths[first] + (x.age(0, second) - x.age(0, first)) * (warmths[third] - warmths[first]) / ages;
+            warmths[second] = Math.max(-50, Math.min(50, inLine + random.nextInt(2)));
+            if (random.nextInt(3) == 0) {
+                warmths[339 + random.nextInt(60)] = 50;
+            }
+            for (int day = 339; day < 399; day++) {
+                x.warmth(day, (int) warmths[day]);
+            }
+            compareLaw(x, 339, 399, warmths, random);
+            beyond += x.foretold(0, 339, 399, -50, 0) == VOID ? 1 : 0;
+        }
+        due.is(18, "some are beyond", beyond > 20 ? 1 : 0, 1);
+    }
+
+    private static void foretoldAtTheBound() {
+        int[] days = {342, 366, 394};
+        SeaWatches x = threeRates(days, new int[] {-43, -31, -32}, new int[] {-271, 658, -624});
+        due.is(18, "not beyond", x.foretold(0, 339, 399, -50, 399), 2000000000);
+        int[] others = {352, 368, 387};
+        SeaWatches y = threeRates(others, new int[] {-22, -4, -5}, new int[] {-175, 14, 129});
+        due.is(18, "2000001000 is beyond", y.foretold(0, 339, 399, -50, 0), VOID);
+        int[] third = {353, 361, 393};
+        SeaWatches z = threeRates(third, new int[] {-8, 3, 2}, new int[] {823, 727, 132});
+        due.is(18, "below 0, not beyond", z.foretold(0, 339, 399, 0, 399), -1999999000);
+    }
+
+    /** Three rates alone, with a repair on day 359. */
+    private static SeaWatches threeRates(int[] days, int[] warmths, int[] rates) {
+        SeaWatches x = new SeaWatches();
+        x.put(0, 0, 0);
+        for (int i = 0; i < 4; i++) {
+            x.days(i == 3 ? 99 : 100);
+        }
+        x.repair(0, 359);
+        for (int i = 0; i < 3; i++) {
+            x.compare(0, days[i], 0, 0);
+            x.compare(0, days[i] + 1, rates[i], 0);
+            x.warmth(days[i], warmths[i]);
+        }
+        return x;
+    }
+
+    /** Of days 339 to 398, each 999 or -999, with a repair on day 359, by which the rate of 358 is none. */
+    private static SeaWatches sixtyRates(Random random) {
+        SeaWatches x = new SeaWatches();
+        x.put(0, 0, 0);
+        for (int i = 0; i < 4; i++) {
+            x.days(i == 3 ? 99 : 100);
+        }
+        int error = 0;
+        x.compare(0, 339, error, 0);
+        for (int day = 339; day < 399; day++) {
+            error += random.nextBoolean() ? 999 : -999;
+            x.compare(0, day + 1, error, 0);
+        }
+        x.repair(0, 359);
+        return x;
     }
 
     private static int warmthOf(int style, int i, Random random) {

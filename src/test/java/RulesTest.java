@@ -118,6 +118,10 @@ public final class RulesTest {
         fault("1 + 99999 000001", 10);
         fault("Sum", 0);
         fault("suM", 0);
+        fault("sumz", 0);
+        fault("sum{", 3);
+        fault("sum`", 3);
+        fault("1:", 1);
         fault("sum$", 3);
         fault("sum\t", 3);
         fault("sum" + (char) 0, 3);
@@ -262,6 +266,7 @@ public final class RulesTest {
         due.is(22, "all", x.trial(0, 0, 6), 402);
         due.is(22, "60 days", x.trial(0, 0, 60), 456);
         due.is(22, "day q - 1 at most", x.trial(0, 0, 4), 301);
+        due.is(22, "days 3 to 7", x.trial(0, 3, 8), 203);
         due.is(22, "no RATE", x.trial(0, 2, 3), VOID);
         due.is(22, "61 days", x.trial(0, 0, 61), VOID);
         due.is(22, "no days", x.trial(0, 1, 1), VOID);
@@ -305,6 +310,12 @@ public final class RulesTest {
         due.is(23, "what is lent counts", x.order(1, 0, 3), 2);
         x.off(1, 0, 0, 10);
         due.is(23, "all as known now", x.order(1, 0, 3), 2);
+        Due.rule(x, 0, "gaps * (days - sum)");
+        for (int place = 0; place < 4; place++) {
+            x.compare(place, 2, rates[place], 0);
+        }
+        due.is(23, "days 1 to 2, all alike", x.order(0, 1, 3), 1);
+        Due.rule(x, 0, "sum");
         x.home(3);
         x.take(3);
         due.is(23, "what is taken does not", x.order(1, 0, 3), 1);

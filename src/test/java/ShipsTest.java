@@ -273,6 +273,10 @@ public final class ShipsTest {
         due.is(28, "comparison", x.error(1, 9, -1), -100);
         due.is(28, "comparison", x.error(2, 9, -1), 100000);
         due.is(28, "there is one", x.compare(0, 9, 0, 0), -4);
+        for (int signal = 1; signal <= 5; signal++) {
+            x.off(signal, 0, 399, 50);
+        }
+        due.is(28, "by the observatory", x.error(0, 9, -1), 31);
         due.is(28, "holder", x.holder(0, 9), -1);
         due.is(28, "holder", x.holder(0, 8), 100);
         due.is(28, "holder", x.holder(0, 2), 100);
