@@ -310,7 +310,7 @@ public final class RulesTest {
         due.is(23, "what is lent counts", x.order(1, 0, 3), 2);
         x.off(1, 0, 0, 10);
         due.is(23, "all as known now", x.order(1, 0, 3), 2);
-        Due.rule(x, 0, "gaps * (days - sum)");
+        Due.rule(x, 0, "-gaps");
         for (int place = 0; place < 4; place++) {
             x.compare(place, 2, rates[place], 0);
         }

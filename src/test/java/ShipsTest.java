@@ -323,7 +323,11 @@ public final class ShipsTest {
         due.is(26, "the sights of the old one are gone", x.sight(0, 8, 0, 0, 0), -1);
         x.days(1);
         due.is(26, "first of the new voyage", x.sight(0, 9, 0, 0, 0), 0);
-        due.is(27, "at sea again", x.told(0, 0, 7), 4 + 5);
+        due.is(27, "at sea again, WIDTH", x.told(0, 0, 7), 4 + 5);
+        due.is(27, "at sea again, TIME by GOING", x.told(0, 0, 4), -100 - x.carried(0, 0, 2));
+        due.is(28, "N 1", x.back(0, 150, 100, 100), 1);
+        due.is(27, "back, TIME by the ERROR", x.told(0, 0, 4), -150);
+        due.is(27, "back, WIDTH", x.told(0, 0, 7), 5);
     }
 
     private static void state() {
