@@ -175,7 +175,7 @@ public final class ComparisonEdgesTest {
     }
 
     private static void off() {
-        due.says(14, "A SIGNAL is found OFF by v on days a to b (a at most b, b at most 399): how many were told.");
+        due.says(14, "A SIGNAL is found OFF by v on days a to b (a at most b, b at most 399): how many were told. BAD, FULL.");
         due.run("off(1, 0, 0, 1) = 1; off(1, 399, 399, 1) = 2; off(1, 0, 399, 1) = 3; off(1, 5, 5, 1) = 4; count(2) = 4");
         due.run("off(1, 1, 0, 1) = BAD; off(1, 399, 398, 1) = BAD; off(1, 0, 400, 1) = BAD; off(1, 400, 400, 1) = BAD;"
                 + "off(1, -1, 0, 1) = BAD; off(1, -1, -1, 1) = BAD; off(1, MIN, MAX, 1) = BAD; off(1, 0, MAX, 1) = BAD;"
@@ -203,7 +203,7 @@ public final class ComparisonEdgesTest {
     private static void changed() {
         String run = SHELF + "compare(0, 0, 0, 1); compare(0, 1, 10, 1); compare(0, 2, 20, 1); compare(0, 3, 1019, 1);"
                 + "compare(0, 4, 2019, 1);";
-        due.says(15, "of days p to q - 1 of a WATCH");
+        due.says(15, "How many RATES changed between AS KNOWN on day k and by now, of days p to q - 1 of a WATCH");
         due.run(run + "off(1, 2, 2, 1); changed(0, 0, 5, 4) = 2; changed(0, 0, 1, 4) = 0; changed(0, 1, 2, 4) = 1;"
                 + "changed(0, 2, 3, 4) = 1; changed(0, 0, 2, 4) = 1; changed(0, 3, 4, 4) = 0; changed(0, 2, 5, 4) = 1;"
                 + "changed(0, 0, 5, 5) = 0; changed(0, 0, 5, -1) = 0; changed(0, 0, 5, 399) = 0");

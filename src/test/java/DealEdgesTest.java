@@ -77,6 +77,11 @@ public final class DealEdgesTest {
         due.run(list(4, 4, 9) + "deal(10, 0, 0) = 40");
         due.run(list(9, 4, 9) + "deal(10, 0, 0) = 90");
         due.run(list(9999, 9999, 9999) + "deal(400, 0, 0) = 3999600");
+        due.says(0, "(three for each SHIP at most needed, 9 at most): each SHIP gets three;");
+        due.run(list(9, 8, 7, 6, 5, 4, 3, 2, 1) + "doubt(1) = FULL; deal(2, 3, 4) = 12;"
+                + dealtIs(0, 1, 2, 0, 0, 1, 1, 2, 2));
+        due.run(list(1, 1, 1, 1, 1, 1, 1, 1) + "deal(1, 1, 0) = 1;" + dealtIs(0, 0, 0, 1, 1, 1, -1, -1));
+        due.run(list(1, 1, 1, 1, 1) + "deal(1, 0, 0) = 1;" + dealtIs(0, 0, 0, -1, -1));
         due.says(0, "Of all ways the least of the greatest WORST;");
         due.run(list(1, 2, 3, 4, 9, 9) + "deal(1, 1, 0) = 4; deal(1, 0, 0) = NOT");
         due.run(list(1, 2, 3, 4, 9, 9) + "deal(2, 1, 0) = 4");

@@ -8,6 +8,7 @@ public final class LawEdgesTest {
 
     public static void main(String[] args) {
         law();
+        asKnownByNow();
         stretches();
         terms();
         foretold();
@@ -43,6 +44,15 @@ public final class LawEdgesTest {
                 + "law(0, 0, 61) = BAD; foretold(0, 0, 60, 50, 399) = 1000; jump(0, 0, 60, 0) = NOT");
     }
 
+    private static void asKnownByNow() {
+        due.says(0, "All AS KNOWN by now.");
+        due.run("put(0, 1, 0); days(2); compare(0, 0, 0, 0); compare(0, 1, 1000, 2); compare(0, 2, 1500, 0);"
+                + "law(0, 0, 2) = 1; foretold(0, 0, 2, 0, 0) = 500000; off(2, 1, 1, 1); law(0, 0, 2) = 2;"
+                + "terms(0, 0, 2) = 4; foretold(0, 0, 2, 0, 0) = 999000; foretold(0, 0, 2, 0, 1) = 501000;"
+                + "jump(0, 0, 2, 497) = 0; jump(0, 0, 2, 498) = NOT; off(2, 1, 1, 499); law(0, 0, 2) = 1;"
+                + "foretold(0, 0, 2, 0, 0) = 500000; tape 'sum'; rule(0); trial(0, 0, 2) = 500; order(0, 0, 2) = 1");
+    }
+
     private static void stretches() {
         due.says(16, "BAD (q - p is not 1 .. 60), MISSING, KIND.");
         String[] calls = {"law(%s)", "terms(%s)", "foretold(%s, 0, 0)", "jump(%s, 0)"};
@@ -68,7 +78,7 @@ public final class LawEdgesTest {
     }
 
     private static void terms() {
-        due.says(17, "NOT: no RATE.");
+        due.says(17, "Its TERMS: 3 (all), 2 (1 and WARMTH), 4 (1 and AGE), 1. BAD, MISSING, KIND; NOT: no RATE.");
         due.run(RATES + "terms(0, 0, 4) = NOT; warmth(0, 0); terms(0, 0, 4) = 1; late(0, 0); terms(0, 0, 4) = NOT;"
                 + "terms(1, 4, 9) = NOT");
         due.says(0, "TERMS: 1, WARMTH, AGE, if by these it is one alone;");

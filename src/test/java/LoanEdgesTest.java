@@ -81,7 +81,7 @@ public final class LoanEdgesTest {
         due.run(SHELF + "count(-1) = BAD; count(7) = BAD; count(MIN) = BAD; count(MAX) = BAD; count(0) = 2; count(1) = 5;"
                 + "count(2) = 0; count(3) = 0; count(4) = 0; count(5) = 1; count(6) = 0; lend(0, 1); count(0) = 2;"
                 + "home(0); take(0); count(0) = 1; take(2); count(5) = 0; put(15, 2, 1); count(5) = 1; off(1, 0, 0, 0);"
-                + "count(2) = 1; feed(4, 0); count(4) = 4; rule(0); count(4) = 0; doubt(1); count(6) = 1; take(1);"
+                + "count(2) = 1; feed(4, 0); count(4) = 4; rule(0) = -100; count(4) = 0; doubt(1); count(6) = 1; take(1);"
                 + "count(0) = 0; put(0, 0, 0); put(15, 0, 0) = NOT; count(0) = 1");
         due.run(ShipEdgesTest.READY + "count(3) = 0; sail(0, 0, 1, 2); count(3) = 1; count(0) = 3; days(1); count(3) = 1;"
                 + "back(0, 30, -20, 100); count(3) = 0; sail(4, 0, 1, 2); count(3) = 1");

@@ -10,7 +10,7 @@ import java.util.Set;
 import java.util.TreeMap;
 
 /**
- * The document once more, in maps and lists and without a thought of room or speed, for RandomRunsTest.
+ * The document once more, in maps and lists and without a thought of room or speed, for RandomRunsTest and GridTest.
  * Laws and deals are left to LawsTest and DealTest, which work them out in other ways.
  */
 final class Model {
@@ -39,6 +39,7 @@ final class Model {
     final Map<Integer, Voyage> voyages = new HashMap<>();
     final StringBuilder tape = new StringBuilder();
     final String[] rules = new String[2];
+    final List<Integer> doubts = new ArrayList<>();
 
     int refusal(boolean bad, int place) {
         if (bad || place < 0 || place > 15) {
@@ -486,6 +487,38 @@ final class Model {
             away += holder(place, day) == -1 ? 0 : 1;
         }
         return away;
+    }
+
+    int holds(int place) {
+        return place < 0 || place > 15 ? -1 : shelf.containsKey(place) ? shelf.get(place).kind : -5;
+    }
+
+    int read(int place) {
+        return holds(place) < 1 ? VOID : shelf.get(place).number;
+    }
+
+    int doubt(int v) {
+        if (v < 1 || v > 9999) {
+            return -1;
+        }
+        if (doubts.size() == 9) {
+            return -5;
+        }
+        doubts.add(v);
+        return doubts.size();
+    }
+
+    int count(int what) {
+        switch (what) {
+            case 0: return (int) shelf.values().stream().filter(thing -> thing.kind != 2).count();
+            case 1: return today;
+            case 2: return offs.size();
+            case 3: return (int) voyages.values().stream().filter(voyage -> voyage.back == -1).count();
+            case 4: return tape.length();
+            case 5: return (int) shelf.values().stream().filter(thing -> thing.kind == 2).count();
+            case 6: return doubts.size();
+            default: return -1;
+        }
     }
 
     /** A text worked out by two stacks as it is read: its value, or its fault. */

@@ -130,12 +130,12 @@ final class Questions {
         }
     }
 
-    /** The first question that is answered otherwise after one more call; null if there is none. */
-    String firstChange(Call oneMore) {
+    /** The first question that is answered otherwise after some more calls; null if there is none. */
+    String firstChange(List<Call> more) {
         for (List<Call> set : sets) {
-            int size = Math.max(1, MOST_CALLS - ahead.size() - 1);
+            int size = Math.max(1, MOST_CALLS - ahead.size() - more.size());
             for (int from = 0; from < set.size(); from += size) {
-                String change = firstChange(oneMore, set.subList(from, Math.min(set.size(), from + size)));
+                String change = firstChange(more, set.subList(from, Math.min(set.size(), from + size)));
                 if (change != null) {
                     return change;
                 }
@@ -144,12 +144,12 @@ final class Questions {
         return null;
     }
 
-    private String firstChange(Call oneMore, List<Call> set) {
+    private String firstChange(List<Call> more, List<Call> set) {
         SeaWatches without = new SeaWatches();
         SeaWatches with = new SeaWatches();
         Call.all(ahead, without);
         Call.all(ahead, with);
-        oneMore.on(with);
+        Call.all(more, with);
         for (Call question : set) {
             int was = question.on(without);
             int is = question.on(with);

@@ -218,6 +218,18 @@ public final class RuleEdgesTest {
         fault("abs not 2", 4);
         fault("- not 2", 2);
         value("abs (not 0)", 1);
+        due.says(0, "S = P { + P, - P }. P = O { * O, / O }.");
+        value("7", 7);
+        value("10 - 4 + 3 - 2", 7);
+        value("2 * 3 * 4 / 5 * 6", 24);
+        value("2 + 3 * 4 - 8 / 2", 10);
+        value("1 - 2 * 3 < 4 - 5 / 6", 1);
+        fault("1 + + 2", 4);
+        fault("1 * / 2", 4);
+        value("1 + - 2", -1);
+        value("6 / - 2", -3);
+        fault("+ 1", 0);
+        fault("* 1", 0);
         due.says(0, "N = not N, or C.");
         value("not not 5", 1);
         value("not 1 = 2", 1);

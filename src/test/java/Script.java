@@ -50,6 +50,10 @@ final class Script {
         return WORDS.containsKey(word) ? WORDS.get(word) : Integer.parseInt(word);
     }
 
+    List<Call> calls() {
+        return calls;
+    }
+
     void run(Due due) {
         SeaWatches x = new SeaWatches();
         for (int i = 0; i < calls.size(); i++) {
@@ -57,8 +61,8 @@ final class Script {
             int answer = call.on(x);
             if (call.due != null) {
                 due.is("call " + i + ", " + call, answer, call.due);
-            } else if (call.isRefusal(answer)) {
-                due.is("call " + i + ", " + call + " was not to be refused, but", answer, 1);
+            } else if (call.isRefusal(answer) || answer <= -100 && call.name.equals("rule")) {
+                due.is("call " + i + ", " + call + ", not to be refused,", answer, 1);
             }
             if (call.changesNothing(answer)) {
                 nothingChanged(due, i);
@@ -68,7 +72,7 @@ final class Script {
 
     private void nothingChanged(Due due, int at) {
         List<Call> ahead = calls.subList(0, at);
-        String change = new Questions(ahead, calls).firstChange(calls.get(at));
+        String change = new Questions(ahead, calls).firstChange(calls.subList(at, at + 1));
         if (change != null) {
             due.is("call " + at + ", " + calls.get(at) + " changed " + change, 1, 0);
         }

@@ -23,6 +23,7 @@ public final class ShipEdgesTest {
         sightNumbers();
         sightRefused();
         sightsFull();
+        timesFarAway();
         told();
         places();
         dropped();
@@ -135,7 +136,8 @@ public final class ShipEdgesTest {
     }
 
     private static void carried() {
-        due.says(25, "0 PLACE (at SAILING), 1 START, 2 GOING, 3 DOUBT. VOID: BAD, it never SAILED.");
+        due.says(25, "Of WATCH i (0 .. 2) of a SHIP in its latest voyage: 0 PLACE (at SAILING), 1 START, 2 GOING, 3 DOUBT."
+                + " VOID: BAD, it never SAILED.");
         due.run(READY + "carried(0, 0, 0) = VOID; carried(4, 2, 3) = VOID; sail(0, 2, 0, 1); carried(0, 0, 0) = 2;"
                 + "carried(0, 1, 0) = 0; carried(0, 2, 0) = 1; carried(0, -1, 0) = VOID; carried(0, 3, 0) = VOID;"
                 + "carried(0, 0, -1) = VOID; carried(0, 0, 4) = VOID; carried(-1, 0, 0) = VOID; carried(5, 0, 0) = VOID;"
@@ -191,7 +193,36 @@ public final class ShipEdgesTest {
                 + "sight(0, 11, 0, 0, 0) = NOT; told(0, 39, 0) = 9");
     }
 
+    private static void timesFarAway() {
+        due.says(0, "TIME of one: that, less START, less GOING times n. WIDTH: DOUBT times n, and 5.");
+        // rates 999, 999 and -999, -999 and 999, -999; 397 days at sea
+        due.run("put(0, 0, 0); put(1, 0, 0); put(2, 0, 0); days(2);" + errors(0, 0, 98002, 99001, 100000)
+                + errors(1, 0, -98002, -99001, -100000) + errors(2, 0, 0, 999, 0)
+                + "sail(0, 0, 1, 2); days(100); days(100); days(100); days(97); sight(0, 399, -2000000, 2000000, 0) = 0;"
+                + "carried(0, 0, 2) = 999; carried(0, 1, 2) = -999; carried(0, 2, 3) = 1000; told(0, 0, 4) = -2496603;"
+                + "told(0, 0, 5) = 2496603; told(0, 0, 6) = 0; told(0, 0, 7) = 402; told(0, 0, 9) = 397005;"
+                + "told(0, 0, 2) = VOID; tape 'off'; rule(1); told(0, 0, 1) = 1; tape 'off = 37449 * 100 + 4'; rule(1);"
+                + "told(0, 0, 1) = 0; tape 'off = 37449 * 100 + 5'; rule(1); told(0, 0, 1) = 1;"
+                + "back(0, 100000, -100000, 0) = 397; told(0, 0, 4) = -2100000; told(0, 0, 9) = 5");
+        String bySignal = "put(0, 0, 0); put(1, 0, 0); put(2, 0, 0); days(2);" + "off(4, 2, 2, 10000);".repeat(60)
+                + errors(0, 0, 0, 0, 0) + errors(1, 0, 0, 0, 0);
+        due.run(bySignal + "off(4, 2, 2, 1) = FULL; compare(2, 0, 0, 0); compare(2, 1, 0, 0); compare(2, 2, 0, 4);"
+                + "error(2, 2, -1) = -600000; rate(2, 1, -1) = VOID; sail(0, 0, 1, 2) = NOT");
+        due.run(bySignal + "repair(2, 2); days(2); compare(2, 0, 0, 0); compare(2, 1, 0, 0); compare(2, 3, 0, 0);"
+                + "compare(2, 4, 0, 0); compare(0, 4, 0, 0); compare(1, 4, 0, 0); sail(0, 0, 1, 2) = 1");
+        due.says(0, "From then on TIME of a SIGHT is what it showed, less START, less n times (that ERROR less START)");
+        String far = "put(0, 0, 0); put(1, 0, 0); put(2, 0, 0); days(2);" + "off(4, 0, 2, 10000);".repeat(60)
+                + errors(0, 0, 0, 0, 0) + errors(1, 0, 0, 0, 0) + "compare(2, 0, -100000, 4); compare(2, 1, -100000, 4);"
+                + "compare(2, 2, -100000, 4); sail(0, 0, 1, 2); carried(0, 2, 1) = -700000; days(100); days(100); days(100);"
+                + "days(97); sight(0, 398, 0, 0, 2000000); sight(0, 399, 0, 0, -2000000);";
+        due.run(far + "told(0, 0, 6) = 2700000; told(0, 1, 6) = -1300000; back(0, 0, 0, 100000) = 397;"
+                + "told(0, 0, 6) = 1902016; told(0, 1, 6) = -2100000");
+    }
+
     private static void told() {
+        due.says(27, "1 which one is DROPPED (-1: none), 2 where its PLACE begins, 3 where it ends (both VOID if it is EMPTY)");
+        due.run(AT_SEA + "told(0, 0, 1) = -1; told(0, 0, 2) = VOID; told(0, 0, 3) = VOID; tape 'which = 1'; rule(1);"
+                + "told(0, 0, 1) = 1; told(0, 0, 2) = -10; told(0, 0, 3) = 10");
         due.says(27, "4 to 6 TIMES of the three, 7 to 9 WIDTHS. VOID: BAD.");
         due.run(AT_SEA + "told(0, 0, 0) = 7; told(0, 0, 4) = 0; told(0, 0, 5) = 100; told(0, 0, 6) = 15;"
                 + "told(0, 0, 7) = 10; told(0, 0, 8) = 20; told(0, 0, 9) = 25; told(0, 0, 10) = VOID;"
@@ -201,7 +232,8 @@ public final class ShipEdgesTest {
                 + "told(MIN, 0, 0) = VOID; told(MAX, 0, 0) = VOID");
         due.run(READY + "told(0, 0, 0) = VOID; sail(0, 0, 1, 2); told(0, 0, 0) = VOID; days(1); told(0, 0, 0) = VOID;"
                 + "sight(0, 3, 30, -18, 100); told(0, 0, 7) = 6; told(0, 0, 8) = 8; told(0, 0, 9) = 9;"
-                + "told(0, 0, 4) = 0; told(0, 0, 5) = 0; told(0, 0, 6) = 0; told(0, 0, 2) = -6; told(0, 0, 3) = 6");
+                + "told(0, 0, 4) = 0; told(0, 0, 5) = 0; told(0, 0, 6) = 0; told(0, 0, 2) = -6; told(0, 0, 3) = 6;"
+                + "told(0, 0, -1) = VOID; told(0, 0, 10) = VOID; told(0, 1, 2) = VOID; told(0, -1, 2) = VOID");
     }
 
     private static void places() {
