@@ -111,7 +111,10 @@ public final class LawEdgesTest {
                 + "foretold(0, 0, 6, 0, 0) = -1000");
         // by AGE 0, 1, 2: 1/3 + 3/2 - 3/2 AGE
         due.run("put(0, 1, 0); days(3);" + errors(0, 3, -2, 0) + "terms(0, 0, 3) = 4; foretold(0, 0, 3, 0, 0) = 1833;"
-                + "foretold(0, 0, 3, 0, 1) = 333; foretold(0, 0, 3, 0, 2) = -1167; foretold(0, 0, 3, 0, 399) = -596667");
+                + "foretold(0, 0, 3, 0, 1) = 333; foretold(0, 0, 3, 0, 2) = -1167; foretold(0, 0, 3, 0, 399) = -596667;"
+                + "foretold(0, 0, 3, 50, 1) = 333; foretold(0, 0, 3, -50, 1) = 333");
+        due.run(RATES + "warmth(0, 2); warmth(1, 3); terms(0, 0, 4) = 2; foretold(0, 0, 4, 2, 0) = 5000;"
+                + "foretold(0, 0, 4, 2, 399) = 5000; foretold(0, 0, 4, 50, 7) = 53000; foretold(0, 0, 4, -50, 7) = -47000");
     }
 
     /** Some rates alone, nearly in line, with a repair on day 359. */
