@@ -37,6 +37,11 @@ final class Call {
         return new Call(name, null, arguments);
     }
 
+    /** Of all calls of the face. */
+    static Set<String> names() {
+        return FACE.keySet();
+    }
+
     int on(SeaWatches x) {
         Object[] boxed = new Object[arguments.length];
         for (int i = 0; i < boxed.length; i++) {

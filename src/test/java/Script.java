@@ -46,7 +46,7 @@ final class Script {
         calls.add(new Call(one.substring(0, open), due, arguments));
     }
 
-    private static int number(String word) {
+    static int number(String word) {
         return WORDS.containsKey(word) ? WORDS.get(word) : Integer.parseInt(word);
     }
 
