@@ -11,6 +11,7 @@ public final class RuleEdgesTest {
         feed();
         rule();
         ruleAndTape();
+        longRulesOneAfterAnother();
         faults();
         numbersAndWords();
         blanks();
@@ -71,6 +72,27 @@ public final class RuleEdgesTest {
         due.run(SHELF + "tape '1 + sum'; rule(1) = -104; count(4) = 0; tape '2'; rule(0) = 1; trial(0, 0, 5) = 2");
         due.run(SHELF + "tape 'days'; rule(1) = 1; count(4) = 0; rule(1) = -100; count(4) = 0");
         due.run(SHELF + "tape '" + "(".repeat(120) + "'; count(4) = 120; rule(0) = -115; count(4) = 0; feed(4, 0) = 4");
+    }
+
+    /** Rows are used again, so that nothing of an earlier text may be left in them, be it a rule or faulty. */
+    private static void longRulesOneAfterAnother() {
+        due.says(21, "THE TAPE becomes the RULE of TRIALS (which 0), DROP (1): 1;");
+        StringBuilder trials = new StringBuilder(SHELF);
+        for (int i = 1; i <= 5; i++) {
+            trials.append("tape '" + "1+".repeat(59) + i + "'; rule(0) = 1; trial(0, 0, 5) = " + (59 + i) + ";");
+        }
+        due.run(trials + "tape 'sum'; rule(0) = 1; trial(0, 0, 5) = 11");
+        StringBuilder drops = new StringBuilder(ShipEdgesTest.AT_SEA);
+        for (int i = 0; i < 5; i++) {
+            drops.append("tape '" + "1*".repeat(54) + "(which=" + i % 3 + ")'; rule(1) = 1; told(0, 0, 1) = " + i % 3 + ";");
+        }
+        due.run(drops.toString());
+        StringBuilder faulty = new StringBuilder(SHELF);
+        for (int i = 1; i <= 3; i++) {
+            faulty.append("tape '" + "1+".repeat(60) + "'; rule(" + i % 2 + ") = -220;");
+            faulty.append("tape '" + "1-".repeat(59) + i + "'; rule(0) = 1; trial(0, 0, 5) = " + (-57 - i) + ";");
+        }
+        due.run(faulty.toString());
     }
 
     private static void fault(String text, int place) {
